@@ -422,6 +422,8 @@ public final class StrataClient {
     private static final class Vote {
         private static final long DISTANCE_LIMIT = 6442450944L;
         private static final int MOST_SURVIVORS = 3;
+        /** No interval reaches it: offsets end at 2^60 and distances at the limit. */
+        private static final long BEYOND_ALL = 1L << 62;
 
         int candidates;
         long low;
@@ -432,8 +434,8 @@ public final class StrataClient {
 
         Vote() {
             candidates = 0;
-            low = Long.MAX_VALUE;
-            high = Long.MIN_VALUE;
+            low = BEYOND_ALL;
+            high = -BEYOND_ALL;
             survivors = 0;
             offsets = new long[SERVERS];
             distances = new long[SERVERS];
@@ -493,8 +495,8 @@ public final class StrataClient {
 
         /** The least long in most intervals is where one of them begins, the greatest where one ends. */
         private void findBounds() {
-            low = Long.MAX_VALUE;
-            high = Long.MIN_VALUE;
+            low = BEYOND_ALL;
+            high = -BEYOND_ALL;
             for (int s = 0; s < SERVERS; s++) {
                 if (has(candidates, s)) {
                     long start = offsets[s] - distances[s];

@@ -29,6 +29,7 @@ public final class AgreementTest {
         peerByNumber();
         farAway();
         askingChangesNothing();
+        answersDoNotNeedOneAnother();
         check.end();
     }
 
@@ -231,6 +232,22 @@ public final class AgreementTest {
         StrataClient x = Scene.clientWith(100, 50, 90, 110, 9000);
         String before = Scene.answers(x);
         check.due("asked again", Scene.answers(x), before);
+    }
+
+    private static void answersDoNotNeedOneAnother() {
+        check.due("candidates asked first", Scene.clientWith(1, 20, 300).candidates(), 7);
+        check.due("low asked first", Scene.clientWith(1, 20, 300).low(), 20 - D);
+        check.due("high asked first", Scene.clientWith(1, 20, 300).high(), 20 + D);
+        check.due("survivors asked first", Scene.clientWith(1, 20, 300).survivors(), 7);
+        check.due("peer asked first", Scene.clientWith(1, 20, 300).peer(), 0);
+        StrataClient x = Scene.clientWith(1);
+        check.due("high", x.high(), 1 + D);
+        x.run(65536);
+        check.due("high after a while", x.high(), 2 + D);
+        x.run(65536);
+        check.due("low after a while", x.low(), -1 - D);
+        Scene.kiss(x, 0, Scene.DENY);
+        check.refused("high of nobody", NoSuchElementException.class, x::high);
     }
 
     private static void bounds(String what, StrataClient x, long low, long high, int survivors) {

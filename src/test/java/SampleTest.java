@@ -9,6 +9,7 @@ public final class SampleTest {
         leastDelay();
         bestByDelay();
         bestByAge();
+        eachSampleHasItsOwnAge();
         bestOfEqualOnes();
         delayIsHalvedRoundedDown();
         dispersionGrows();
@@ -69,6 +70,20 @@ public final class SampleTest {
         Scene.take(x, 0, 30, 5000000);
         check.due("a newer one, worn only by its delay", x.offset(0), 30);
         check.due("its delay", x.delay(0), 5000000);
+    }
+
+    /** The middle one is best, though the first would be if it were as new, and the last if its delay were less. */
+    private static void eachSampleHasItsOwnAge() {
+        StrataClient x = Scene.client();
+        Scene.take(x, 0, 10, 10000);
+        x.run(100 * 65536);
+        Scene.take(x, 0, 20, 10020);
+        x.run(50 * 65536);
+        Scene.take(x, 0, 30, 10140);
+        check.due("offset", x.offset(0), 20);
+        check.due("distance", x.distance(0), 5010 + 65536 + 50 + 10);
+        x.run(7 * 65536);
+        check.due("distance later", x.distance(0), 5010 + 65536 + 57 + 10);
     }
 
     private static void bestOfEqualOnes() {
