@@ -2,7 +2,7 @@ import java.util.NoSuchElementException;
 
 /**
  * A client that asks servers for the time, finds the interval in which most of them agree, and sets
- * its clock by those that lie in it. No call makes an object: all rows are made with the client.
+ * its clock by those that lie in it. All rows are made with the client: a call makes no object but what it throws.
  */
 public final class StrataClient {
     public static final int SAMPLE = 0, UNSYNCHRONIZED = 1, KISS = 2, WILD = 3;
